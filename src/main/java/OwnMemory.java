@@ -260,10 +260,8 @@ public final class OwnMemory {
             return;
         }
         goOver(s);
-        // A name that nothing leads to any more may be given again only where a new one would not be refused.
-        if (!hasRoom(sizeAt(flatOf(roots[s])))) {
-            slideTogether();
-        }
+        // One that is not there any more but lies in the row still is as good as a new one: nobody can tell them
+        // apart, and a new one would not be refused, as this one's words are within the limit where they lie.
         int known = findName(flatOf(roots[s]));
         roots[r] = known == NOTHING ? makeName(s) : known;
     }
@@ -489,10 +487,6 @@ public final class OwnMemory {
 
     // How memory is made and collected
 
-    private boolean hasRoom(int size) {
-        return size <= words.length - used;
-    }
-
     private boolean isStressed() {
         return stressEvery > 0 && (made + 1) % stressEvery == 0;
     }
@@ -500,7 +494,7 @@ public final class OwnMemory {
     /** A new object that leads nowhere; collects before it refuses, so that only what is there counts. */
     private int make(int kind, int links, int values, int plain) {
         int size = HEAD + links + 2 * values + plain;
-        boolean tight = !hasRoom(size);
+        boolean tight = size > words.length - used;
         if (tight || isStressed()) {
             slideTogether();
         }

@@ -461,6 +461,13 @@ public final class PromisesTest {
         due("16 parts are kept by it", 67, just::collect);
         thrown("19 full when spread while its parts are there", FULL, () -> just.unit(0, 0));
         due("19 then it is joined still", 3, () -> just.kind(0));
+        OwnMemory held = joinable(11);
+        held.take(2, 0, 0, 8);
+        thrown("16 what root r holds counts still", FULL, () -> held.join(2, 0, 1));
+        due("16 and stays", 1, () -> held.kind(2));
+        held.drop(2);
+        held.take(2, 0, 0, 2);
+        done("16 just not full with it", () -> held.join(2, 0, 1));
         OwnMemory empty = joinable(4);
         empty.text(2, 0, 0);
         done("16 what makes nothing is never full", () -> empty.join(3, 0, 2));
@@ -560,6 +567,8 @@ public final class PromisesTest {
         due("17 parts are gone", 46, m::collect);
         done("17 room for its parts' words", () -> m.part(4, 0, 0, 20));
         due("17 the limit itself", 60, m::collect);
+        thrown("17 what root r holds counts still", FULL, () -> m.part(4, 0, 0, 0));
+        due("17 and stays", 20, () -> m.length(4));
     }
 
     private static void unitsAndSpreading() {
@@ -643,6 +652,9 @@ public final class PromisesTest {
         build(m, 7, 1, 40);
         due("20 spread though the first unit tells", -1, () -> m.compare(7, 4));
         due("20 it is", 4, () -> m.kind(7));
+        build(m, 7, 1, 40);
+        due("20 with itself", 0, () -> m.compare(7, 7));
+        due("20 then it is spread too", 4, () -> m.kind(7));
         m.name(9, 8);
         due("20 a name", 0, () -> m.compare(9, 8));
         m.take(10, 1, 1, 1);
@@ -692,6 +704,11 @@ public final class PromisesTest {
         m.text(2, 0x00010003L, 2);
         m.name(3, 2);
         due("21 another unit is another name", false, () -> m.same(1, 3));
+        m.text(2, 0x000100020003L, 3);
+        m.name(3, 2);
+        m.text(2, 0x0001000200030000L, 4);
+        m.name(4, 2);
+        due("21 a unit 0 more in the same words", false, () -> m.same(3, 4));
         m.text(5, 0, 0);
         m.name(6, 5);
         m.text(5, 0, 0);
