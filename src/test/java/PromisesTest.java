@@ -1,3 +1,4 @@
+import java.lang.reflect.Field;
 import java.util.Objects;
 
 /** Each promise of the document by hand: ordinary inputs, the edges that it names, and wrong inputs. */
@@ -861,6 +862,33 @@ public final class PromisesTest {
         }
     }
 
+    /** That memory is collected changes no answer, so only the words in use inside can tell. */
+    private static int wordsInUse(OwnMemory m) {
+        try {
+            Field used = OwnMemory.class.getDeclaredField("used");
+            used.setAccessible(true);
+            return used.getInt(m);
+        } catch (ReflectiveOperationException e) {
+            throw new IllegalStateException(e);
+        }
+    }
+
+    private static void stressCollects() {
+        OwnMemory m = new OwnMemory(1000);
+        m.take(0, 0, 0, 7);
+        m.stress(3);
+        int[] inUse = {20, 30, 20, 30, 40, 20, 30};
+        for (int i = 0; i < inUse.length; i++) {
+            m.take(0, 0, 0, 7);
+            due("23 collects before each third object, after " + (i + 1), inUse[i], () -> wordsInUse(m));
+        }
+        m.stress(1);
+        for (int i = 0; i < 3; i++) {
+            m.take(0, 0, 0, 7);
+            due("23 collects before each object", 20, () -> wordsInUse(m));
+        }
+    }
+
     public static void main(String[] args) {
         newObject();
         take();
@@ -876,6 +904,7 @@ public final class PromisesTest {
         namesGiven();
         collects();
         stresses();
+        stressCollects();
         System.out.println(wrong == 0 ? "all answers are as due" : wrong + " answers are not as due");
         if (wrong != 0) {
             System.exit(1);
