@@ -12,7 +12,10 @@ import java.util.Set;
  */
 public final class ModelTest {
     private static final int RUNS = 3_000;
+    /** What calls behind these answer is free. */
     private static final int CALLS = 512;
+    /** How many of them are left to look at the end of each second run. */
+    private static final int CALLS_AT_END = 200;
     private static final String[] CALL_NAMES = {"take", "copy", "drop", "kind", "same", "tie", "lead", "number", "refer",
         "bits", "follow", "set", "get", "text", "join", "part", "length", "unit", "compare", "name", "collect",
         "stress"};
@@ -452,7 +455,9 @@ public final class ModelTest {
         if (seed % 4 == 1) {
             real.stress(1 + seed % 3);
         }
-        for (int i = 0; i < CALLS; i++) {
+        boolean isLookedAt = seed % 2 == 0;
+        int calls = CALLS - (seed % 4 == 1 ? 1 : 0) - (isLookedAt ? CALLS_AT_END : 0);
+        for (int i = 0; i < calls; i++) {
             int what = draw.call();
             int[] n = draw.numbers(what, model);
             long bits = draw.bits(what);
@@ -475,38 +480,50 @@ public final class ModelTest {
                 return false;
             }
         }
-        return isEndRight(seed, real, model);
+        return !isLookedAt || isEndRight(seed, real, model);
     }
 
-    /** Looks at all that roots and blocks hold when a run has ended. */
+    /** Looks at what roots and blocks hold when a run has ended, as far as the calls that are left reach. */
     private static boolean isEndRight(int seed, OwnMemory real, Model model) {
+        int left = CALLS_AT_END - 1;
+        boolean right = real.collect() == model.words();
         for (int r = 0; r < 24; r++) {
             Thing t = model.roots[r];
-            boolean right = real.kind(r) == (t == null ? 0 : t.kind());
-            for (int s = 0; s < r; s++) {
-                right &= real.same(r, s) == (t == model.roots[s]);
-            }
-            if (t != null && t.links == null) {
-                right &= real.length(r) == t.units.length;
-                for (int k = 0; t.left == null && k < t.units.length; k++) {
-                    right &= real.unit(r, k) == t.units[k];
-                }
-            } else if (t != null) {
-                for (int k = 0; k < t.plain.length; k++) {
-                    right &= real.get(r, k) == t.plain[k];
-                }
-                for (int k = 0; k < t.values.length; k++) {
-                    right &= t.values[k] instanceof Thing || real.bits(r, k) == (Long) t.values[k];
-                }
-            }
-            if (!right) {
-                System.out.println("run " + seed + ": root " + r + " is not as due at the end");
-                return false;
+            right &= real.kind(r) == (t == null ? 0 : t.kind());
+            right &= real.same(r, (r + 1) % 24) == (t == model.roots[(r + 1) % 24]);
+            left -= 2;
+        }
+        for (int r = 0; r < 24 && left >= 40; r++) {
+            Thing t = model.roots[r];
+            if (t != null) {
+                right &= t.links == null ? isTextRight(real, r, t) : isBlockRight(real, r, t);
+                left -= 40;
             }
         }
-        boolean right = real.collect() == model.words();
         if (!right) {
-            System.out.println("run " + seed + ": the words are not as due at the end");
+            System.out.println("run " + seed + ": not as due at the end");
+        }
+        return right;
+    }
+
+    /** In at most 40 calls. */
+    private static boolean isTextRight(OwnMemory real, int r, Thing t) {
+        int n = t.units.length;
+        boolean right = real.length(r) == n;
+        for (int k = 0; t.left == null && k < n; k += 1 + n / 30) {
+            right &= real.unit(r, k) == t.units[k];
+        }
+        return right;
+    }
+
+    /** In at most 24 calls. */
+    private static boolean isBlockRight(OwnMemory real, int r, Thing t) {
+        boolean right = true;
+        for (int k = 0; k < t.plain.length; k++) {
+            right &= real.get(r, k) == t.plain[k];
+        }
+        for (int k = 0; k < t.values.length; k++) {
+            right &= t.values[k] instanceof Thing || real.bits(r, k) == (Long) t.values[k];
         }
         return right;
     }
