@@ -4,6 +4,8 @@ import java.lang.management.ManagementFactory;
 public final class RoomTest {
     /** Elements are ints of four bytes here; the room is taken for all that is made, collected by Java or not. */
     private static final long ROOM = 7_300_000L * 4;
+    /** The row of words is doubled as it is needed: a large limit alone takes no room. */
+    private static final long LITTLE = 300_000L * 4;
     private static int wrong = 0;
 
     private interface Run {
@@ -15,15 +17,15 @@ public final class RoomTest {
         return bean.getThreadAllocatedBytes(Thread.currentThread().getId());
     }
 
-    private static void measure(String what, Run run) {
+    private static void measure(String what, long most, Run run) {
         run.run(new OwnMemory(1_048_576));
         long before = allocated();
         run.run(new OwnMemory(1_048_576));
         long bytes = allocated() - before;
         System.out.println(what + ": " + bytes / 4 + " elements' room");
-        if (bytes > ROOM / 2) {
+        if (bytes > most) {
             wrong++;
-            System.out.println(what + " takes more than half the room");
+            System.out.println(what + " takes more than " + most / 4);
         }
     }
 
@@ -85,10 +87,10 @@ public final class RoomTest {
     }
 
     public static void main(String[] args) {
-        measure("keeping all", RoomTest::keepAll);
-        measure("keeping nothing", RoomTest::keepNothing);
-        measure("many names", RoomTest::manyNames);
-        measure("only refused calls", RoomTest::onlyRefused);
+        measure("keeping all", ROOM / 2, RoomTest::keepAll);
+        measure("keeping nothing", LITTLE, RoomTest::keepNothing);
+        measure("many names", LITTLE, RoomTest::manyNames);
+        measure("only refused calls", LITTLE, RoomTest::onlyRefused);
         if (wrong != 0) {
             System.exit(1);
         }

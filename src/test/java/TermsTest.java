@@ -21,6 +21,31 @@ public final class TermsTest extends Check {
         }
     }
 
+    /** As many parts as 4,000 units can have, nearly: 24 units and 226 single ones, four times doubled. */
+    private static void manyPartsOf512Calls() {
+        for (boolean isFirst : new boolean[] {true, false}) {
+            OwnMemory m = new OwnMemory(10_000);
+            m.text(1, 9, 1);
+            build(m, 0, 100, 24);
+            for (int i = 0; i < 226; i++) {
+                m.join(0, isFirst ? 0 : 1, isFirst ? 1 : 0);
+            }
+            for (int i = 0; i < 4; i++) {
+                m.join(0, 0, 0);
+            }
+            int others = isFirst ? 24 : 0;
+            int own = isFirst ? 0 : 226;
+            for (int i = 0; i < 16; i++) {
+                int from = 250 * i;
+                due("the first of 24 in " + i, 100, () -> m.unit(0, from + own));
+                due("the last of 24 in " + i, 123, () -> m.unit(0, from + own + 23));
+                due("the first single one in " + i, 9, () -> m.unit(0, from + others));
+                due("the last single one in " + i, 9, () -> m.unit(0, from + others + 225));
+            }
+            due("all are spread", 5 + 6 + 2004, m::collect);
+        }
+    }
+
     private static void deepBlocksOf512Calls() {
         OwnMemory m = new OwnMemory(10_000);
         m.stress(1);
@@ -115,14 +140,33 @@ public final class TermsTest extends Check {
             return wordsGone(m, 8);
         });
         gives("gone with all that leads to it", 11 + 6, m -> wordsGone(m, 0, 2));
-        gives("there by a link of a block that is there", 0, m -> {
-            m.tie(8, 7, 7);
-            return wordsGone(m, 7);
-        });
-        gives("there by a reference of a block that is there", 0, m -> {
-            m.refer(8, 7, 7);
-            return wordsGone(m, 7);
-        });
+        for (int k = 0; k < 8; k++) {
+            int at = k;
+            gives("there by link " + k + " of a block that is there", "0 true", m -> {
+                m.copy(10, 7);
+                m.drop(0);
+                m.tie(8, at, 7);
+                int gone = wordsGone(m, 7);
+                m.lead(8, at, 9);
+                return gone + " " + m.same(9, 10);
+            });
+            gives("there by that link alone", 0, m -> {
+                m.tie(8, at, 7);
+                return wordsGone(m, 7);
+            });
+            gives("there by value " + k + " of a block that is there", "0 true", m -> {
+                m.copy(10, 7);
+                m.drop(0);
+                m.refer(8, at, 7);
+                int gone = wordsGone(m, 7);
+                m.follow(8, at, 9);
+                return gone + " " + m.same(9, 10);
+            });
+            gives("there by that value alone", 0, m -> {
+                m.refer(8, at, 7);
+                return wordsGone(m, 7);
+            });
+        }
         gives("not there by a reference that became a number", 3, m -> {
             m.refer(8, 7, 7);
             m.number(8, 7, 0);
@@ -480,6 +524,13 @@ public final class TermsTest extends Check {
             m.name(9, 3);
             return m.kind(9) + " " + m.kind(3) + " " + m.length(9);
         });
+        gives("a joined one is gone over, too, when its name is there", "true 4", m -> {
+            m.join(10, 2, 4);
+            m.join(11, 5, 4);
+            m.name(12, 10);
+            m.name(13, 11);
+            return m.same(12, 13) + " " + m.kind(11);
+        });
         gives("the name of a spread one and of its part", true, m -> {
             m.name(9, 4);
             m.part(10, 4, 0, 26);
@@ -540,6 +591,24 @@ public final class TermsTest extends Check {
             m.collect();
             m.name(5, 2);
             return m.kind(5) + " " + (m.collect() == before);
+        });
+        gives("another text with its units that lies where it lay is no name", "5 false", m -> {
+            m.drop(8);
+            m.name(9, 4);
+            m.drop(9);
+            m.collect();
+            m.part(9, 4, 0, 26);
+            m.name(10, 9);
+            return m.kind(10) + " " + m.same(9, 10);
+        });
+        gives("names made before and behind it stay", "true true", m -> {
+            m.name(9, 6);
+            m.name(10, 4);
+            m.drop(9);
+            m.collect();
+            m.name(11, 2);
+            m.name(12, 4);
+            return m.same(5, 11) + " " + m.same(10, 12);
         });
         gives("it stays by a link", true, m -> {
             m.tie(8, 7, 5);
@@ -698,6 +767,17 @@ public final class TermsTest extends Check {
         spreads("name", 19, "full, 4 3, 0", m -> m.name(9, 10));
         spreads("name", 37, "full, 4 3, 0", m -> m.name(9, 10));
         spreads("name", 38, "0, 4 3, 5", m -> m.name(9, 10));
+        OwnMemory m = furnished();
+        m.join(10, 4, 2);
+        m.join(11, 4, 2);
+        m.name(9, 10);
+        leave(m, LIMIT, 18);
+        thrown("a text whose name is there is gone over first, and that is full", FULL, () -> m.name(12, 11));
+        due("it is joined still", JOINED, () -> m.kind(11));
+        m.drop(2);
+        m.drop(0);
+        done("with words enough to spread it", () -> m.name(12, 11));
+        due("it is that name", true, () -> m.same(9, 12));
     }
 
     /** Root 3's parts (16 and 5 words) are there by it alone: they count while it is spread, and not behind that. */
@@ -798,6 +878,7 @@ public final class TermsTest extends Check {
 
     public static void main(String[] args) {
         deepTextOf512Calls();
+        manyPartsOf512Calls();
         deepBlocksOf512Calls();
         keptNamesOf512Calls();
         mostWordsOf512Calls();
