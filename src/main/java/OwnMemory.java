@@ -27,6 +27,8 @@ public final class OwnMemory {
     private static final int MOST_GIVEN_UNITS = 4;
     private static final int MOST_UNITS_JOINED_FLAT = 24;
     private static final int FIRST_WORDS = 256;
+    /** So often doubled, a row of one word would reach the greatest limit. */
+    private static final int MOST_DOUBLINGS = 20;
     private static final int FIRST_NAMES = 16;
 
     /** Where there is no object: no object begins at -1. */
@@ -44,6 +46,7 @@ public final class OwnMemory {
     private static final int GOES_TO = 1;
     /** The next one in the chain that begins at waiting. */
     private static final int NEXT = 2;
+    /** The least that an object takes: a walk over the row goes on by as much, and so ends, whatever it meets. */
     private static final int HEAD = 3;
     private static final int PARTS = 2;
     private static final int LEFT = HEAD;
@@ -517,7 +520,7 @@ public final class OwnMemory {
     /** Leaves half the row free where the limit lets it, so that not every object that is made collects. */
     private void widen(int need) {
         int length = words.length;
-        while (length < 2 * need && length < limit) {
+        for (int times = 0; times < MOST_DOUBLINGS && length < 2 * need && length < limit; times++) {
             length += length;
         }
         if (length > words.length) {
@@ -536,7 +539,7 @@ public final class OwnMemory {
         int end = planMoves();
         keepNames();
         touchRoots(true);
-        for (int at = 0; at < used; at += sizeAt(at)) {
+        for (int at = 0; at < used; at += Math.max(HEAD, sizeAt(at))) {
             if (words[at + GOES_TO] != NOTHING) {
                 touchLeads(at, true);
             }
@@ -583,7 +586,7 @@ public final class OwnMemory {
     /** Says to each object that is there where it goes; answers where the last one will end. */
     private int planMoves() {
         int end = 0;
-        for (int at = 0; at < used; at += sizeAt(at)) {
+        for (int at = 0; at < used; at += Math.max(HEAD, sizeAt(at))) {
             if (words[at + GOES_TO] != NOTHING) {
                 words[at + GOES_TO] = end;
                 end += sizeAt(at);
@@ -605,8 +608,8 @@ public final class OwnMemory {
     }
 
     private void moveAll() {
-        int size;
-        for (int at = 0; at < used; at += size) {
+        int size = 0;
+        for (int at = 0; at < used; at += Math.max(HEAD, size)) {
             size = sizeAt(at);
             int to = words[at + GOES_TO];
             words[at + GOES_TO] = NOTHING;

@@ -48,6 +48,8 @@ public final class FaceTest {
     /** Rule 6, and a text that is written out. */
     private static final String THROWN = "throw new (Illegal(State|Argument)|IndexOutOfBounds|Arithmetic"
         + "|UnsupportedOperation|NoSuchElement|Runtime)Exception\\((\"[^\"]*\")?\\);";
+    /** A step by which a loop's counter goes on for certain. */
+    private static final String SURE_STEP = "\\w+(\\+\\+|--| \\+= [1-9]\\d*| \\+= Math\\.max\\(HEAD, .*\\))";
     private static int wrong = 0;
 
     private static void need(boolean right, String what) {
@@ -110,9 +112,27 @@ public final class FaceTest {
         }
     }
 
+    /** Rule 9: the class has only loops with a counter that goes on in the loop's own first line. */
+    private static void loops() throws IOException {
+        int loops = 0;
+        for (String line : Files.readAllLines(Path.of("src/main/java/OwnMemory.java"))) {
+            String code = line.replaceAll("^\\s*/?\\*.*|//.*", "").trim();
+            need(!code.matches(".*\\b(while|do)\\b.*"), "a loop whose end is not in its first line: " + code);
+            Matcher head = Pattern.compile("for \\((.*)\\) \\{").matcher(code);
+            if (head.matches() && !head.group(1).contains(" : ")) {
+                loops++;
+                String[] parts = head.group(1).split("; ");
+                need(parts.length == 3 && parts[2].matches(SURE_STEP), "a loop that may not go on: " + code);
+                need(parts.length == 3 && parts[1].matches("\\w+ [<>] [\\w. *]+( && .*)?"), "a loop without a bound: " + code);
+            }
+        }
+        need(loops > 0, "no loop found");
+    }
+
     public static void main(String[] args) throws IOException {
         face();
         source();
+        loops();
         System.out.println(wrong == 0 ? "the face is as due" : wrong + " things are not as due");
         if (wrong != 0) {
             System.exit(1);
