@@ -48,6 +48,7 @@ public final class FaceTest {
     /** Rule 6, and a text that is written out. */
     private static final String THROWN = "throw new (Illegal(State|Argument)|IndexOutOfBounds|Arithmetic"
         + "|UnsupportedOperation|NoSuchElement|Runtime)Exception\\((\"[^\"]*\")?\\);";
+    private static final String BOUND = "\\w+ [<>] \\w+( && .*)?";
     /** A step by which a loop's counter goes on for certain. */
     private static final String SURE_STEP = "\\w+(\\+\\+|--| \\+= [1-9]\\d*| \\+= Math\\.max\\(HEAD, .*\\))";
     private static int wrong = 0;
@@ -122,8 +123,8 @@ public final class FaceTest {
             if (head.matches() && !head.group(1).contains(" : ")) {
                 loops++;
                 String[] parts = head.group(1).split("; ");
+                need(parts.length == 3 && parts[1].matches(BOUND), "a loop without a bound: " + code);
                 need(parts.length == 3 && parts[2].matches(SURE_STEP), "a loop that may not go on: " + code);
-                need(parts.length == 3 && parts[1].matches("\\w+ [<>] [\\w. *]+( && .*)?"), "a loop without a bound: " + code);
             }
         }
         need(loops > 0, "no loop found");

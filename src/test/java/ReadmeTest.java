@@ -72,7 +72,8 @@ public final class ReadmeTest extends Check {
         due("the constructor is named", true, () -> text.contains("`new OwnMemory(limit)`"));
         for (Method m : OwnMemory.class.getDeclaredMethods()) {
             if (Modifier.isPublic(m.getModifiers())) {
-                due(m.getName() + " is named with its arguments", m.getParameterCount(), () -> argumentsSaid(text, m.getName()));
+                String call = m.getName();
+                due("arguments of " + call, m.getParameterCount(), () -> argumentsSaid(text, call));
             }
         }
     }
